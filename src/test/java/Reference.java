@@ -141,6 +141,14 @@ final class Reference {
         return answer;
     }
 
+    /** What is received if the air holds these samples. */
+    static Reference receivedFrom(List<int[]> wave) {
+        Reference it = new Reference();
+        it.onAir = wave;
+        it.receive();
+        return it;
+    }
+
     int got(int k) {
         return k >= 0 && k < found.size() ? found.get(k) : -1;
     }
@@ -310,12 +318,17 @@ final class Reference {
 
     /** A frame of any bits, those too that send never makes. */
     static List<int[]> frameOf(List<Integer> signal, List<Integer> data, int rate) {
+        return frameOfCoded(signal, coded(data, rate >= 2), rate);
+    }
+
+    /** A frame of coded bits, those too that no coder makes. */
+    static List<int[]> frameOfCoded(List<Integer> signal, List<Integer> codedData, int rate) {
         List<int[]> frame = new ArrayList<>();
         addSamples(frame, training(), 8);
         addSamples(frame, training(), 0);
         addSamples(frame, training(), 0);
         addSymbols(frame, interleaved(coded(signal, false), 1), 1, 0);
-        addSymbols(frame, interleaved(coded(data, rate >= 2), M[rate]), M[rate], 3);
+        addSymbols(frame, interleaved(codedData, M[rate]), M[rate], 3);
         return frame;
     }
 
