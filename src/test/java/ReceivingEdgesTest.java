@@ -20,6 +20,7 @@ public final class ReceivingEdgesTest {
         Check.sentence("or there is no d", ReceivingEdgesTest::noStart);
         Check.sentence("samples START + 8 .. and START + 24 ..", ReceivingEdgesTest::samplesOfTraining);
         Check.sentence("H of a used carrier", ReceivingEdgesTest::usedCarriers);
+        Check.sentence("TRANSFORM: (.. + 8192) >> 14", ReceivingEdgesTest::transformRounds);
         Check.sentence("their first four samples left out", ReceivingEdgesTest::samplesOfSymbols);
         Check.sentence("Z, W, E (as longs)", ReceivingEdgesTest::loudSymbols);
         Check.sentence("each >> 10", ReceivingEdgesTest::weakSymbols);
@@ -114,6 +115,25 @@ public final class ReceivingEdgesTest {
         heard("R below -10000 * 256 by 196", whisper(-2500, 0, -1, 0), -3, 0);
         // 1, -1 adds 447 to R and 55 to J: that is -9999.
         heard("R above -10000 * 256 by 447", whisper(-2500, 0, 1, -1), -2, -1);
+        int[] one = oneShort();
+        heard("R below 10000 * 256 by 1", whisper(one[0], one[1], one[2], one[3]), -2, -1);
+        heard("J below 10000 * 256 by 1", whisper(-one[1], one[0], -one[3], one[2]), -2, -1);
+        heard("R above -10000 * 256 by 1", whisper(-one[0], -one[1], -one[2], -one[3]), -3, 0);
+    }
+
+    /** Samples 8 and 9, with which R is 10000 * 256 - 1 and J not far from 0. */
+    private static int[] oneShort() {
+        for (int nextI = -100; nextI <= 100; nextI++) {
+            for (int nextQ = -100; nextQ <= 100; nextQ++) {
+                int left = 2559999 - 196 * nextI + 251 * nextQ;
+                int q = -(196 * nextQ + 251 * nextI) / 1024;
+                if (left % 1024 == 0) {
+                    return new int[] {left / 1024, q, nextI, nextQ};
+                }
+            }
+        }
+        Check.holds("there are such samples", false);
+        return new int[4];
     }
 
     private static void loudStarts() {
@@ -230,6 +250,35 @@ public final class ReceivingEdgesTest {
         }
     }
 
+    /**
+     * A sample alone at START + 9 is halved twice on its way, and then met by C(1), 15137, where
+     * carrier 1 is; a hundred samples leave no other START.
+     */
+    private static void transformed(int quarter) {
+        int due = Math.floorDiv(quarter * 15137 + 8192, 16384);
+        Map<String, Object> real = Waves.received(Waves.spike(100, 9, 4 * quarter, 0));
+        Check.same("START", real.get("heard(1)"), 0);
+        Check.same("real part of carrier 1", real.get("learned(1, false)"), due);
+        Check.same("real part of carrier 9", real.get("learned(9, false)"), -due);
+        Map<String, Object> imaginary = Waves.received(Waves.spike(100, 9, 0, 4 * quarter));
+        Check.same("imaginary part of carrier 1", imaginary.get("learned(1, true)"), due);
+        Check.same("imaginary part of carrier 9", imaginary.get("learned(9, true)"), -due);
+    }
+
+    private static void transformRounds() {
+        Check.same("5919 * 15137 is 8191 above a multiple", 5919 * 15137 % 16384, 8191);
+        Check.same("-8192 * 15137 is 8192 above one", Math.floorMod(-8192 * 15137, 16384), 8192);
+        transformed(5919);
+        transformed(-8192);
+        for (int quarter = 8100; quarter < 8192; quarter++) {
+            transformed(quarter);
+            transformed(-quarter);
+        }
+        // Both halvings round down: -32767 becomes -16384, then -8192.
+        Map<String, Object> odd = Waves.received(Waves.spike(100, 9, -32767, 0));
+        Check.same("halved twice", odd.get("learned(1, false)"), Math.floorDiv(-8192 * 15137 + 8192, 16384));
+    }
+
     private static void samplesOfSymbols() {
         List<int[]> wave = twoBytes(0);
         Map<String, Object> clean = Waves.received(wave);
@@ -266,6 +315,18 @@ public final class ReceivingEdgesTest {
                 Waves.checkReceived("and Y", Waves.scaled(training, 40, wave.size(), times, 1));
             }
         }
+        // H is beyond 46340, whose square is the last one that fits an int; real or imaginary, by turns.
+        for (int times = 24; times <= 80; times += 8) {
+            for (int turns = 0; turns <= 3; turns++) {
+                List<int[]> training = Waves.scaled(twoBytes(3), 0, 40, times, 1);
+                List<int[]> loud = turned(Waves.scaled(training, 40, 120, 7, 1), turns);
+                Map<String, Object> seen = Waves.received(loud);
+                int h = (int) seen.get("learned(9, " + (turns % 2 == 1) + ")");
+                Check.holds("H is " + h, times < 40 || Math.abs(h) > 46340);
+                Check.same("rate 3 is heard, times " + times, seen.get("heard(2)"), 3);
+                Waves.checkReceived("times " + times + ", turns " + turns, loud);
+            }
+        }
         // All power on one carrier: Z is some 5,000,000,000.
         for (int carrier : new int[] {1, 7, 9, 15}) {
             for (int rate = 0; rate <= 3; rate++) {
@@ -279,6 +340,18 @@ public final class ReceivingEdgesTest {
                 Waves.checkReceived("all on carrier " + carrier + " with rate " + rate, wave);
             }
         }
+    }
+
+    private static List<int[]> turned(List<int[]> wave, int turns) {
+        List<int[]> all = wave;
+        for (int t = 0; t < turns; t++) {
+            List<int[]> next = new ArrayList<>();
+            for (int[] one : all) {
+                next.add(new int[] {Reference.saturated(-one[1]), one[0]});
+            }
+            all = next;
+        }
+        return all;
     }
 
     private static void weakSymbols() {
@@ -471,6 +544,12 @@ public final class ReceivingEdgesTest {
                     int asked = k;
                     Check.same("byte " + k, scene.answer(x -> x.got(asked)), k < count ? 17 + k : -1);
                 }
+                List<Integer> bytes = new ArrayList<>();
+                for (int k = 0; k < count; k++) {
+                    bytes.add(17 + k);
+                }
+                // The metric is of all symbols, the last one too.
+                Waves.checkReceived("rate " + rate + ", " + count + " bytes", Waves.frame(rate, 127, bytes));
             }
         }
     }
