@@ -21,7 +21,6 @@ public final class PromisesTest {
         sendChangesNothingWhenItThrows();
         bitScrambled();
         bitCoded();
-        bitInterleaved();
         bitMissing();
         sampleOfTraining();
         sampleOfSymbols();
@@ -66,14 +65,6 @@ public final class PromisesTest {
             text.append(x.bit(stage, k));
         }
         return text.toString();
-    }
-
-    private static List<Integer> listOf(String bits) {
-        List<Integer> list = new ArrayList<>();
-        for (char c : bits.toCharArray()) {
-            list.add(c - '0');
-        }
-        return list;
     }
 
     /** Disturbs the air, which holds the frame from lead on, until it holds another one. */
@@ -231,34 +222,10 @@ public final class PromisesTest {
         Check.same("twice as many", x.bit(1, -1), 84);
         for (int rate = 0; rate <= 3; rate++) {
             CarrierLink y = sent(7, 0x12f45678abcdefL, rate, 77);
-            List<Integer> data = listOf(bits(y, 0, 0, y.bit(0, -1)));
+            List<Integer> data = Waves.bitsOf(bits(y, 0, 0, y.bit(0, -1)));
             List<Integer> due = Reference.coded(data, rate >= 2);
-            Check.same("coded with rate " + rate, listOf(bits(y, 1, 0, y.bit(1, -1))), due);
+            Check.same("coded with rate " + rate, Waves.bitsOf(bits(y, 1, 0, y.bit(1, -1))), due);
             Check.same("so many", y.bit(1, -1), rate >= 2 ? data.size() / 3 * 4 : data.size() * 2);
-        }
-    }
-
-    private static void bitInterleaved() {
-        // Places of the bits 0, 1, 2, .. of a symbol, worked out by hand.
-        int[] one = {0, 3, 6, 9, 1, 4, 7, 10, 2, 5, 8, 11};
-        int[] two = {0, 6, 12, 18, 1, 7, 13, 19, 2, 8, 14, 20, 3, 9, 15, 21, 4, 10, 16, 22, 5, 11, 17, 23};
-        int[] four = {
-            0, 13, 24, 37, 1, 12, 25, 36, 2, 15, 26, 39, 3, 14, 27, 38, 4, 17, 28, 41, 5, 16, 29, 40,
-            6, 19, 30, 43, 7, 18, 31, 42, 8, 21, 32, 45, 9, 20, 33, 44, 10, 23, 34, 47, 11, 22, 35, 46
-        };
-        int[][] places = {one, two, two, four};
-        for (int rate = 0; rate <= 3; rate++) {
-            for (int seed = 1; seed <= 127; seed += 9) {
-                CarrierLink x = sent(8, 0x0123456789abcdefL * seed, rate, seed);
-                int count = x.bit(1, -1);
-                Check.same("as many as coded", x.bit(2, -1), count);
-                int n = places[rate].length;
-                StringBuilder moved = new StringBuilder("x".repeat(n));
-                for (int k = 0; k < n; k++) {
-                    moved.setCharAt(places[rate][k], (char) ('0' + x.bit(1, count - n + k)));
-                }
-                Check.same("last symbol of rate " + rate, bits(x, 2, count - n, count), moved.toString());
-            }
         }
     }
 
@@ -343,8 +310,8 @@ public final class PromisesTest {
                     point[1] = b.charAt(1) == '1' ? 724 : -724;
                 }
                 default -> {
-                    point[0] = level(b.substring(0, 2));
-                    point[1] = level(b.substring(2));
+                    point[0] = Waves.level(b.substring(0, 2));
+                    point[1] = Waves.level(b.substring(2));
                 }
             }
         }
@@ -355,19 +322,10 @@ public final class PromisesTest {
         return points;
     }
 
-    private static int level(String bits) {
-        return switch (bits) {
-            case "00" -> -972;
-            case "01" -> -324;
-            case "11" -> 324;
-            default -> 972;
-        };
-    }
-
     private static void sampleOfSignal() {
         // rate 2 is 01, five bytes are 1010, and three 1s need a fourth.
         CarrierLink x = sent(5, 99, 2, 88);
-        List<int[]> due = Reference.frameOf(listOf("011010100000000000"), listOf("0".repeat(18)), 2);
+        List<int[]> due = Reference.frameOf(Waves.bitsOf("011010100000000000"), Waves.bitsOf("0".repeat(18)), 2);
         for (int k = 40; k < 100; k++) {
             Check.same("SIGNAL's sample " + k, x.sample(false, k, false), (short) due.get(k)[0]);
             Check.same("SIGNAL's sample " + k, x.sample(false, k, true), (short) due.get(k)[1]);
@@ -663,7 +621,7 @@ public final class PromisesTest {
     private static void badSignal(String what, String signal, int due) {
         CarrierLink x = aired(1, 0x55, 0, 1, 0);
         List<Integer> data = Reference.dataOf(List.of(0x55), 0, 1);
-        forge(x, 0, Reference.frameOf(listOf(signal), data, 0));
+        forge(x, 0, Reference.frameOf(Waves.bitsOf(signal), data, 0));
         Check.same(what, x.receive(), due);
         int[] heard = due == -3 ? new int[] {-3, 0, -1, -1, -1, -1} : new int[] {due, 0, 0};
         for (int w = 0; w < heard.length; w++) {
@@ -687,7 +645,7 @@ public final class PromisesTest {
         }
         CarrierLink x = aired(1, 1, 0, 1, 0);
         // Twelve bytes are not too many, but there are too few samples for them.
-        forge(x, 0, Reference.frameOf(listOf("000011000000000000"), listOf("0".repeat(24)), 0));
+        forge(x, 0, Reference.frameOf(Waves.bitsOf("000011000000000000"), Waves.bitsOf("0".repeat(24)), 0));
         Check.same("twelve bytes", x.receive(), -4);
         Check.same("heard so", x.heard(3), 12);
     }

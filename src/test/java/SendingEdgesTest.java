@@ -275,20 +275,11 @@ public final class SendingEdgesTest {
         }
     }
 
-    private static int levelOf(String bits) {
-        return switch (bits) {
-            case "00" -> -972;
-            case "01" -> -324;
-            case "11" -> 324;
-            default -> 972;
-        };
-    }
-
     private static int[] pointOf(String bits) {
         return switch (bits.length()) {
             case 1 -> new int[] {bits.equals("1") ? 1024 : -1024, 0};
             case 2 -> new int[] {bits.charAt(0) == '1' ? 724 : -724, bits.charAt(1) == '1' ? 724 : -724};
-            default -> new int[] {levelOf(bits.substring(0, 2)), levelOf(bits.substring(2))};
+            default -> new int[] {Waves.level(bits.substring(0, 2)), Waves.level(bits.substring(2))};
         };
     }
 

@@ -3,7 +3,7 @@ import java.util.LinkedHashMap;
 import java.util.List;
 import java.util.Map;
 
-/** Samples in a row, as tests need them on the air, and what is received from them. */
+/** Samples in a row, as tests need them on the air, what they are made of and what is received from them. */
 final class Waves {
     private Waves() {
     }
@@ -63,6 +63,16 @@ final class Waves {
             bits.add(c - '0');
         }
         return bits;
+    }
+
+    /** The level of two of the four bits on a carrier. */
+    static int level(String bits) {
+        return switch (bits) {
+            case "00" -> -972;
+            case "01" -> -324;
+            case "11" -> 324;
+            default -> 972;
+        };
     }
 
     /** What the program receives from the wave, all that can be asked of it. */
